@@ -46,6 +46,11 @@ public final class LeavesTest {
     private static void lasting() {
         NineDays x = new NineDays();
         Check.due("no members", x.last(0), 999);
+        Check.enact(x, 0, "pay 1;", 0);
+        x.members(5, 7, 1);
+        x.fund(5, 3);
+        Check.due("one head at one", x.last(5), 3);
+        Check.enact(x, 0, "strike 0;", 1);
         x.members(0, 0, 3);
         x.members(0, 7, 4);
         Check.due("no fund", x.last(0), 0);
@@ -55,11 +60,11 @@ public final class LeavesTest {
         Check.due("all", x.last(0), 3);
         x.fund(0, 99999);
         Check.due("999 at most", x.last(0), 999);
-        Check.enact(x, 5, "pay 99;", 0);
+        Check.enact(x, 5, "pay 99;", 2);
         Check.due("not yet", x.last(0), 999);
         x.go(5);
         Check.due("by rules of NOW", x.last(0), 144);
-        Check.enact(x, 5, "pay 0;", 1);
+        Check.enact(x, 5, "pay 0;", 3);
         x.fund(0, 0);
         Check.due("pay 0", x.last(0), 999);
     }
@@ -119,6 +124,7 @@ public final class LeavesTest {
         Check.due("below 0", x.judge(6, 999, -1), NineDays.OUTSIDE);
         x.table(0, 0, -3);
         Check.due("-END", x.judge(3, 6, 0), -6);
+        Check.due("END 1", x.judge(3, 1, 0), -3);
     }
 
     private static NineDays calls() {
@@ -147,6 +153,19 @@ public final class LeavesTest {
         Check.due("a ban after them", x.beside(true), 9);
         x.go(1);
         Check.due("one hour more, fed", x.beside(true), 9);
+        NineDays y = new NineDays();
+        y.road(0, 1, 2);
+        y.members(0, 0, 4);
+        y.store(0, 0, 8);
+        y.need(1, 0, 1);
+        y.load(0, 8, 0, 1, 5);
+        y.stamp(0, 2);
+        y.order(0, 3, 0, 3);
+        y.order(0, 0, 0, 6);
+        y.go(10);
+        Check.due("the first one has number 0", y.beside(true), 9);
+        y.order(1, 0, 0, 10);
+        Check.due("recalls stay in their hours", y.beside(true), 9);
     }
 
     private static void besideByHand() {
@@ -204,6 +223,8 @@ public final class LeavesTest {
         Check.due("lending", x.lending(Integer.MIN_VALUE), NineDays.UNKNOWN);
         Check.due("table", x.table(3, 0, 0), o);
         Check.due("table", x.table(0, -1, 0), o);
+        Check.due("table", x.table(0, 3, 0), o);
+        Check.due("table", x.table(-1, 0, 0), o);
         Check.due("table", x.table(0, 1, 100), o);
         Check.due("table", x.table(0, 1, -100), o);
         Check.due("game", x.game(0, 1, 0), o);

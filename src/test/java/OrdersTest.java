@@ -7,6 +7,7 @@ public final class OrdersTest {
         lates();
         holding();
         bans();
+        calledBefore();
         roadsAfterwards();
         refusals();
         Check.end();
@@ -51,6 +52,10 @@ public final class OrdersTest {
         x.order(3, 1, 2, 16);
         Check.due("the ban where it comes at 19", x.late(4), 4);
         Check.due("the later ones are not", x.late(7), 0);
+        NineDays y = row();
+        y.order(1, 0, 7, 2);
+        y.order(0, 0, 1, 0);
+        Check.due("overtaken by a lesser number, not in its own town", y.late(1), 5);
     }
 
     private static void holding() {
@@ -74,6 +79,8 @@ public final class OrdersTest {
         NineDays x = row();
         x.members(4, 0, 9);
         x.order(0, 4, 0, 1);
+        Check.due("hour 0", x.called(4, 0, 0), 0);
+        Check.due("hour 0", x.holds(4, 0, 0, 0), -1);
         x.order(2, 4, 0, 3);
         x.order(3, 4, 0, 6);
         Check.due("before the ban", x.called(4, 0, 2), 1);
@@ -95,6 +102,20 @@ public final class OrdersTest {
         Check.due("none", x.called(5, 0, 9), 0);
         Check.due("nor does a lift", x.order(3, 5, 0, 8), 4);
         Check.due("none still", x.called(5, 0, 9), 0);
+    }
+
+    private static void calledBefore() {
+        NineDays x = new NineDays();
+        x.members(0, 0, 8);
+        x.order(0, 0, 0, 0);
+        x.go(1);
+        x.members(0, 0, 3);
+        x.members(0, 0, 8);
+        x.go(1);
+        Check.due("called in the hour ahead, by another go", x.out(0, 0, 1), 3);
+        x.order(0, 1, 0, 9);
+        Check.due("each call in its own hour", x.called(1, 0, 8), 0);
+        Check.due("each call in its own hour", x.holds(1, 0, 8, 0), -1);
     }
 
     private static void roadsAfterwards() {

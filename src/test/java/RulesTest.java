@@ -69,6 +69,13 @@ public final class RulesTest {
         Check.faulty(x, "Pay 1;", 1, 0);
         Check.faulty(x, "payX 1;", 1, 3);
         Check.faulty(x, "pays 1;", 1, 0);
+        Check.faulty(x, "payz 1;", 1, 0);
+        Check.faulty(x, "apay 1;", 1, 0);
+        Check.faulty(x, "bay 1;", 1, 0);
+        Check.faulty(x, "pay` 1;", 1, 3);
+        Check.faulty(x, "pay{ 1;", 1, 3);
+        Check.faulty(x, "pay /1;", 1, 4);
+        Check.faulty(x, "pay 1:", 1, 5);
         Check.faulty(x, "  foo", 1, 2);
         Check.faulty(x, ";", 1, 0);
         Check.faulty(x, "pay 1;;", 1, 6);

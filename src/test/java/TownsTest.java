@@ -80,6 +80,11 @@ public final class TownsTest {
         Check.due("an hour more", x.go(1), 2);
         Check.due("the first hour stays", x.town(7, 8), 2);
         Check.due("what hours have left of it", x.store(7, 2, 1), 0);
+        Check.due("nothing is a store too", x.store(7, 2, 0), 1);
+        Check.due("hunger of the first good", x.town(7, 3), 0);
+        x.store(7, 0, 4);
+        Check.due("and its store", x.town(7, 0), 4);
+        Check.due("are two things", x.town(7, 3), 0);
         Check.due("hunger in all", x.count(10), 3);
     }
 
@@ -88,6 +93,8 @@ public final class TownsTest {
         Check.due("members", x.members(5, 7, 999), 0);
         Check.due("members again", x.members(5, 7, 12), 999);
         Check.due("told", x.out(5, 7, 0), 12);
+        Check.due("none", x.members(5, 7, 0), 12);
+        Check.due("some again", x.members(5, 7, 12), 0);
         Check.due("not elsewhere", x.out(5, 6, 0), 0);
         Check.due("fund", x.fund(5, 99999), 0);
         Check.due("fund again", x.fund(5, 30), 99999);
