@@ -1,5 +1,3 @@
-import java.util.List;
-
 /** Promises 27 to 34. */
 public final class LeavesTest {
     public static void main(String[] args) {
@@ -11,7 +9,6 @@ public final class LeavesTest {
         judges();
         beside();
         besideByHand();
-        refusals();
         Check.end();
     }
 
@@ -193,51 +190,5 @@ public final class LeavesTest {
         Check.due("with stamps as they are now", y.beside(false), 1);
         Check.enact(y, 0, "need bread state;", 0);
         Check.due("by rules as they are now", y.beside(false), 5);
-    }
-
-    private static void refusals() {
-        NineDays x = new NineDays();
-        x.leave(0, 1, 3, 9, true);
-        x.table(0, 1, 5);
-        List<Integer> before = Check.state(x);
-        int o = NineDays.OUTSIDE;
-        Check.due("leave", x.leave(-1, 1, 0, 1, true), o);
-        Check.due("leave", x.leave(8, 1, 0, 1, true), o);
-        Check.due("leave", x.leave(1, -1, 0, 1, true), o);
-        Check.due("leave", x.leave(1, 8, 0, 1, true), o);
-        Check.due("leave", x.leave(2, 2, 0, 1, true), o);
-        Check.due("leave", x.leave(2, 3, -1, 1, true), o);
-        Check.due("leave", x.leave(2, 3, 2, 1, true), o);
-        Check.due("leave", x.leave(2, 3, 2, 241, true), o);
-        Check.due("leave", x.leave(2, 3, 241, 241, true), o);
-        Check.due("binds", x.binds(-1, 0, 0), o);
-        Check.due("binds", x.binds(256, 0, 0), o);
-        Check.due("binds", x.binds(1, -1, 0), o);
-        Check.due("binds", x.binds(1, 241, 0), o);
-        Check.due("binds", x.binds(1, 0, 8), o);
-        Check.due("binds", x.binds(1, 0, -1), o);
-        Check.due("last", x.last(6), NineDays.UNKNOWN);
-        Check.due("last", x.last(-1), NineDays.UNKNOWN);
-        Check.due("lending", x.lending(64), NineDays.UNKNOWN);
-        Check.due("lending", x.lending(-1), NineDays.UNKNOWN);
-        Check.due("lending", x.lending(Integer.MIN_VALUE), NineDays.UNKNOWN);
-        Check.due("table", x.table(3, 0, 0), o);
-        Check.due("table", x.table(0, -1, 0), o);
-        Check.due("table", x.table(0, 3, 0), o);
-        Check.due("table", x.table(-1, 0, 0), o);
-        Check.due("table", x.table(0, 1, 100), o);
-        Check.due("table", x.table(0, 1, -100), o);
-        Check.due("game", x.game(0, 1, 0), o);
-        Check.due("game", x.game(7, 1, 0), o);
-        Check.due("game", x.game(1, 0, 0), o);
-        Check.due("game", x.game(1, 1000, 0), o);
-        Check.due("game", x.game(1, 1, 2), o);
-        Check.due("game", x.game(1, 1, -1), o);
-        Check.due("judge", x.judge(0, 1, 0), o);
-        Check.due("judge", x.judge(7, 1, 0), o);
-        Check.due("judge", x.judge(1, 0, 0), o);
-        Check.due("judge", x.judge(1, 1000, 0), o);
-        Check.due("judge", x.judge(1, 1, 9), o);
-        Check.due("what is refused changes nothing", Check.state(x), before);
     }
 }

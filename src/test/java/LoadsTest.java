@@ -1,5 +1,3 @@
-import java.util.List;
-
 /** Promises 21 to 26. */
 public final class LoadsTest {
     public static void main(String[] args) {
@@ -12,7 +10,6 @@ public final class LoadsTest {
         clashes();
         words();
         goes();
-        refusals();
         Check.end();
     }
 
@@ -210,35 +207,5 @@ public final class LoadsTest {
         Check.due("not before", x.load(0, 1, 0, 1, 239), NineDays.OUTSIDE);
         Check.due("hunger", x.count(10), 480);
         Check.due("clash by hour 240", x.clash(0), -1);
-    }
-
-    private static void refusals() {
-        NineDays x = new NineDays();
-        x.load(0, 1, 0, 1, 0);
-        x.stamp(0, 0);
-        x.go(4);
-        List<Integer> before = Check.state(x);
-        int u = NineDays.UNKNOWN;
-        int o = NineDays.OUTSIDE;
-        Check.due("load", x.load(0, 1, 8, 0, 4), u);
-        Check.due("load", x.load(0, 1, 0, -1, 4), u);
-        Check.due("load", x.load(3, 1, 0, 1, 4), o);
-        Check.due("load", x.load(-1, 1, 0, 1, 4), o);
-        Check.due("load", x.load(0, 0, 0, 1, 4), o);
-        Check.due("load", x.load(0, 1000, 0, 1, 4), o);
-        Check.due("load", x.load(0, 1, 2, 2, 4), o);
-        Check.due("load before NOW", x.load(0, 1, 0, 1, 3), o);
-        Check.due("load", x.load(0, 1, 0, 1, 241), o);
-        Check.due("stamp", x.stamp(1, 4), u);
-        Check.due("stamp", x.stamp(-1, 0), u);
-        Check.due("stamp", x.stamp(0, 4), o);
-        Check.due("stamp", x.stamp(0, -1), o);
-        Check.due("stamp", x.stamp(0, 0), NineDays.NOT);
-        Check.due("told", x.told(1, 9), u);
-        Check.due("told", x.told(-1, 0), u);
-        Check.due("told", x.told(0, 9), o);
-        Check.due("told", x.told(0, -1), o);
-        Check.due("go", x.go(101), o);
-        Check.due("what is refused changes nothing", Check.state(x), before);
     }
 }

@@ -11,6 +11,9 @@ public final class ModelTest {
     private static final int[] EXTREMES = {Integer.MIN_VALUE, Integer.MIN_VALUE + 1, -1000, -2, -1, 8, 9, 40, 64, 241,
         256, 1000, 10000, 100000, 531441, Integer.MAX_VALUE - 1, Integer.MAX_VALUE};
 
+    /** What later calls answer is free. */
+    private static final int MOST_CALLS = 512;
+
     private final Random random;
     private final NineDays own = new NineDays();
     private final PlainDays plain = new PlainDays();
@@ -18,6 +21,7 @@ public final class ModelTest {
     private final StringBuilder history = new StringBuilder();
     private final int wildness;
     private final int pace;
+    private int called = 0;
 
     private ModelTest(long seed) throws ReflectiveOperationException {
         random = new Random(seed);
@@ -41,11 +45,11 @@ public final class ModelTest {
     }
 
     private boolean run() throws ReflectiveOperationException {
-        for (int i = 0; i < 500; i++) {
-            boolean fine = random.nextInt(12) == 0 ? text() : call(calls.get(random.nextInt(calls.size())));
-            if (!fine) return false;
+        boolean fine = true;
+        while (fine && called < MOST_CALLS) {
+            fine = random.nextInt(12) == 0 ? text() : call(calls.get(random.nextInt(calls.size())));
         }
-        return true;
+        return fine;
     }
 
     private boolean text() throws ReflectiveOperationException {
@@ -101,6 +105,8 @@ public final class ModelTest {
     }
 
     private boolean compare(Method[] pair, Object... arguments) throws ReflectiveOperationException {
+        if (called == MOST_CALLS) return true;
+        called++;
         Object got = pair[0].invoke(own, arguments);
         Object want = pair[1].invoke(plain, arguments);
         String call = pair[0].getName() + java.util.Arrays.toString(arguments);

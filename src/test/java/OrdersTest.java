@@ -1,5 +1,3 @@
-import java.util.List;
-
 /** Promises 12 to 16. */
 public final class OrdersTest {
     public static void main(String[] args) {
@@ -9,7 +7,6 @@ public final class OrdersTest {
         bans();
         calledBefore();
         roadsAfterwards();
-        refusals();
         Check.end();
     }
 
@@ -126,37 +123,5 @@ public final class OrdersTest {
         Check.due("a way", x.reach(0, 1), 9);
         x.road(0, 1, 2);
         Check.due("a shorter way", x.reach(0, 1), 2);
-    }
-
-    private static void refusals() {
-        NineDays x = row();
-        x.order(0, 0, 0, 0);
-        x.go(10);
-        List<Integer> before = Check.state(x);
-        int u = NineDays.UNKNOWN;
-        int o = NineDays.OUTSIDE;
-        Check.due("order", x.order(0, -1, 0, 10), u);
-        Check.due("order", x.order(0, 0, 8, 0), u);
-        Check.due("order", x.order(-1, 0, 0, 10), o);
-        Check.due("order", x.order(4, 0, 0, 10), o);
-        Check.due("order before NOW", x.order(0, 0, 0, 9), o);
-        Check.due("order", x.order(0, 0, 0, 241), o);
-        Check.due("reach", x.reach(1, 0), u);
-        Check.due("reach", x.reach(-1, 0), u);
-        Check.due("reach", x.reach(0, 8), u);
-        Check.due("late", x.late(1), u);
-        Check.due("late", x.late(-1), u);
-        Check.due("called", x.called(6, 0, 241), u);
-        Check.due("called", x.called(0, -1, 0), u);
-        Check.due("called", x.called(0, 0, 241), o);
-        Check.due("called", x.called(0, 0, -1), o);
-        Check.due("holds", x.holds(6, 0, 0, 2), u);
-        Check.due("holds", x.holds(0, 8, 0, 0), u);
-        Check.due("holds", x.holds(0, 0, 0, 2), o);
-        Check.due("holds", x.holds(0, 0, 0, -1), o);
-        Check.due("holds", x.holds(0, 0, 241, 0), o);
-        Check.due("holds", x.holds(0, 0, -1, 0), o);
-        Check.due("what is refused changes nothing", Check.state(x), before);
-        Check.due("order in NOW", x.order(0, 0, 0, 10), 1);
     }
 }

@@ -1,5 +1,3 @@
-import java.util.List;
-
 /** Promises 17 to 20. */
 public final class RulesTest {
     public static void main(String[] args) {
@@ -10,7 +8,6 @@ public final class RulesTest {
         strikes();
         follow();
         full();
-        refusals();
         Check.end();
     }
 
@@ -188,23 +185,5 @@ public final class RulesTest {
         Check.due("the text stays", x.count(12), 3);
         Check.due("the fault is as it was", x.fault(), -1);
         Check.due("rules", x.count(8), 8);
-    }
-
-    private static void refusals() {
-        NineDays x = new NineDays();
-        Check.faulty(x, "pay", 1, 3);
-        Check.feed(x, "pay 1;");
-        List<Integer> before = Check.state(x);
-        int o = NineDays.OUTSIDE;
-        Check.due("feed", x.feed(0, 1L), o);
-        Check.due("feed", x.feed(9, 1L), o);
-        Check.due("rule", x.rule(-1), o);
-        Check.due("rule", x.rule(241), o);
-        Check.due("force", x.force(7, 0), o);
-        Check.due("force", x.force(-1, 0), o);
-        Check.due("force", x.force(0, 241), o);
-        Check.due("force", x.force(0, -1), o);
-        Check.due("what is refused changes nothing", Check.state(x), before);
-        Check.due("the text stayed", x.rule(240), 0);
     }
 }

@@ -1,5 +1,3 @@
-import java.util.List;
-
 /** Promises 1 to 11. */
 public final class TownsTest {
     public static void main(String[] args) {
@@ -10,7 +8,6 @@ public final class TownsTest {
         whoIsOut();
         purses();
         counts();
-        refusals();
         Check.end();
     }
 
@@ -188,46 +185,5 @@ public final class TownsTest {
         for (int w = 0; w < 14; w++) Check.due("count " + w, x.count(w), want[w]);
         Check.due("count -1", x.count(-1), NineDays.OUTSIDE);
         Check.due("count 14", x.count(14), NineDays.OUTSIDE);
-    }
-
-    private static void refusals() {
-        NineDays x = new NineDays();
-        List<Integer> before = Check.state(x);
-        int u = NineDays.UNKNOWN;
-        int o = NineDays.OUTSIDE;
-        Check.due("road", x.road(-1, 0, 0), u);
-        Check.due("road", x.road(0, 8, 31), u);
-        Check.due("road", x.road(3, 3, 5), o);
-        Check.due("road", x.road(3, 4, 0), o);
-        Check.due("road", x.road(3, 4, 31), o);
-        Check.due("away", x.away(8, 0), u);
-        Check.due("away", x.away(0, -1), u);
-        Check.due("store", x.store(8, 3, -1), u);
-        Check.due("store", x.store(0, 3, 1), o);
-        Check.due("store", x.store(0, -1, 1), o);
-        Check.due("store", x.store(0, 0, 10000), o);
-        Check.due("store", x.store(0, 0, -1), o);
-        Check.due("need", x.need(-1, 0, 100), u);
-        Check.due("need", x.need(0, 0, 100), o);
-        Check.due("need", x.need(0, 0, -1), o);
-        Check.due("need", x.need(0, 3, 1), o);
-        Check.due("members", x.members(6, 0, 1), u);
-        Check.due("members", x.members(0, 8, 1000), u);
-        Check.due("members", x.members(0, 0, 1000), o);
-        Check.due("members", x.members(0, 0, -1), o);
-        Check.due("purse", x.purse(-1, -1), u);
-        Check.due("purse", x.purse(0, 1000), o);
-        Check.due("purse", x.purse(0, -1), o);
-        Check.due("fund", x.fund(6, 0), u);
-        Check.due("fund", x.fund(0, 100000), o);
-        Check.due("fund", x.fund(0, -1), o);
-        Check.due("out", x.out(6, 0, 4), u);
-        Check.due("out", x.out(0, 8, 4), u);
-        Check.due("out", x.out(0, 0, 4), o);
-        Check.due("out", x.out(0, 0, -1), o);
-        Check.due("town", x.town(8, 9), u);
-        Check.due("town", x.town(0, 9), o);
-        Check.due("town", x.town(0, -1), o);
-        Check.due("what is refused changes nothing", Check.state(x), before);
     }
 }
