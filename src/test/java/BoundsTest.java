@@ -131,15 +131,15 @@ public final class BoundsTest {
      * so that beside() tells its purse and its fund as they were set by hand. The bread of town 0 lasts up to hour 59.
      */
     private static void loads(NineDays x) {
-        x.store(0, 0, 260);
+        x.store(0, 0, 760);
         x.purse(0, 2);
         x.purse(1, 3);
         x.need(1, 0, 2);
         x.need(2, 0, 1);
         x.load(0, 7, 0, 1, 35);
-        x.load(0, 100, 0, 1, 26);
+        x.load(0, 400, 0, 1, 26);
         x.load(2, 7, 2, 3, 37);
-        x.load(0, 100, 0, 2, 50);
+        x.load(0, 300, 0, 2, 50);
         x.load(1, 3, 1, 4, 10);
         x.load(2, 7, 4, 5, 38);
         x.load(1, 7, 6, 7, 240);
@@ -149,21 +149,27 @@ public final class BoundsTest {
         x.stamp(5, 3);
     }
 
-    /** As many of everything as there may be. */
+    /** As many of everything as there may be; beside() tells the purse and the fund of union 0 here, too. */
     static void full(NineDays x) {
         for (int r = 0; r < 14; r++) x.road(r % 7, 7, 1 + r);
-        for (int o = 0; o < 40; o++) x.order(o % 4, o % 6, o % 8, 5 * o);
-        for (int l = 0; l < 40; l++) x.load(l % 3, 1 + l, l % 8, (l + 1) % 8, 5 * l);
+        for (int o = 0; o < 40; o++) x.order(o % 4, o == 0 ? 0 : 1 + o % 5, o % 8, 5 * o);
+        for (int l = 0; l < 40; l++) x.load(l % 3, 100 + l, l % 8, (l + 1 + l / 24) % 8, 25 + l);
         for (int v = 0; v < 24; v++) x.leave(v % 8, (v + 1 + v / 8) % 8, v, 10 * v, v % 2 == 0);
         for (int r = 0; r < 8; r++) {
-            x.feed(6, 0x70617920303bL + 256 * r);
+            x.feed(6, 0x70617920003bL + 256 * ('0' + Math.min(9, 4 + r)));
             x.rule(30 * r);
         }
         for (int b = 0; b < 20; b++) x.feed(8, 0x2020202020202020L);
-        x.members(0, 0, 9);
+        x.members(0, 0, 1);
         x.members(1, 1, 9);
-        x.need(0, 0, 1);
+        x.purse(0, 2);
+        x.fund(0, 4);
+        x.store(0, 0, 279);
         x.store(1, 1, 99);
+        for (int t = 0; t < 3; t++) x.need(t, 0, 1);
+        x.stamp(0, 2);
+        x.stamp(24, 2);
+        x.stamp(1, 0);
         x.table(0, 0, 7);
     }
 
@@ -208,9 +214,7 @@ public final class BoundsTest {
                     int[] a = call.fine();
                     a[i] = call.bounds[i].outside()[k % 2];
                     a[j] = call.bounds[j].outside()[k / 2];
-                    NineDays x = new NineDays();
-                    busy(x);
-                    Check.due(text(call, a), call.form.of(x, a), want);
+                    Refused.due(text(call, a), BUSY, x -> call.form.of(x, a), want);
                 }
             }
         }
@@ -263,11 +267,11 @@ public final class BoundsTest {
         Refused.due("full: a leave of one for itself", FULL, x -> x.leave(2, 2, 0, 1, true), O);
     }
 
-    /** The same land at hour 190. */
+    /** The same land at hour 170. */
     private static void busyLater(NineDays x) {
         busy(x);
         x.go(100);
-        x.go(60);
+        x.go(40);
     }
 
     private static void outsideAheadOfNot() {
@@ -283,11 +287,11 @@ public final class BoundsTest {
         Refused.due("no such load, a stamp that there is not", BUSY, x -> x.stamp(7, 4), U);
         Refused.Setup later = BoundsTest::busyLater;
         Refused.due("a stamp when there", later, x -> x.stamp(1, 0), n);
-        Refused.due("NOW would be 241", later, x -> x.go(51), n);
-        Refused.due("NOW would be 290", later, x -> x.go(100), n);
+        Refused.due("NOW would be 241", later, x -> x.go(71), n);
+        Refused.due("NOW would be 270", later, x -> x.go(100), n);
         Refused.due("101 hours", later, x -> x.go(101), O);
         Refused.due("hours below 0", later, x -> x.go(-1), O);
-        Refused.due("an order an hour ago", later, x -> x.order(0, 0, 0, 189), O);
-        Refused.due("a load an hour ago", later, x -> x.load(0, 1, 0, 1, 189), O);
+        Refused.due("an order an hour ago", later, x -> x.order(0, 0, 0, 169), O);
+        Refused.due("a load an hour ago", later, x -> x.load(0, 1, 0, 1, 169), O);
     }
 }

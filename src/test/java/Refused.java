@@ -60,7 +60,7 @@ final class Refused {
         rows.add(whatTheTextBecomes());
         rows.add(whatIsNext());
         rows.add(whatHoursBring(1));
-        rows.add(whatHoursBring(40));
+        rows.add(whatHoursBring(60));
         return rows;
     }
 
