@@ -2,7 +2,10 @@ import java.util.ArrayList;
 import java.util.Comparator;
 import java.util.List;
 
-/** The document once more, as plainly as can be and with nothing kept that can be asked anew: ModelTest sets it beside the class. */
+/**
+ * The document once more, as plainly as can be and with nothing kept that can be asked anew, but for ways, which are asked for
+ * too often: ModelTest sets it beside the class.
+ */
 final class PlainDays {
     static final int NONE = -1, UNKNOWN = -1001, OUTSIDE = -1002, NOT = -1003, FULL = -1004;
     static final List<String> GOODS = List.of("bread", "milk", "coal");
@@ -30,6 +33,9 @@ final class PlainDays {
     final int[][] members = new int[6][8], outs = new int[6][8], purses = new int[6][8], back = new int[6][8];
     final int[] funds = new int[6], handFunds = new int[6], handPurses = new int[6];
     final int[][] table = new int[3][3];
+    private final int[][] ways = new int[8][];
+    /** How many roads there were when ways were asked for last. */
+    private int roadsOfWays = NONE;
     String text = "";
     int faultAt = NONE;
     int now = 0;
@@ -54,6 +60,14 @@ final class PlainDays {
 
     int away(int a, int b) {
         if (!in(a, 0, 7) || !in(b, 0, 7)) return UNKNOWN;
+        if (roadsOfWays != roads.size()) {
+            for (int from = 0; from < 8; from++) ways[from] = waysFrom(from);
+            roadsOfWays = roads.size();
+        }
+        return ways[a][b] == 9999 ? NONE : ways[a][b];
+    }
+
+    private int[] waysFrom(int a) {
         int[] far = new int[8];
         java.util.Arrays.fill(far, 9999);
         far[a] = 0;
@@ -63,7 +77,7 @@ final class PlainDays {
                 far[r.a] = Math.min(far[r.a], far[r.b] + r.hours);
             }
         }
-        return far[b] == 9999 ? NONE : far[b];
+        return far;
     }
 
     int store(int town, int good, int v) {
